@@ -381,6 +381,7 @@ public final class RopewayDesk {
 
     private void leave(Station station, Cabin cabin) {
         station.zones[LAST_ZONE] = null;
+        cabin.stopClamping();
         cabin.standAt(ON_ROPE);
         cabin.station = station.number;
         cabin.done = 0;
@@ -389,13 +390,13 @@ public final class RopewayDesk {
 
     private void fail(Station station, Cabin cabin, int fault) {
         cabin.fault = fault;
+        cabin.stopClamping();
         lock(GRIP);
         if (siding.hasRoom()) {
             station.zones[LAST_ZONE] = null;
             siding.append(cabin);
         } else {
             lock(FULL);
-            cabin.stopClamping();
             cabin.age = 0;
         }
     }
@@ -433,13 +434,12 @@ public final class RopewayDesk {
             this.number = number;
         }
 
-        /** Forgets all that held at the place before, so that nothing of it shows at the new one. */
+        /** Forgets what held at the place before, so that nothing of it shows at the new one. */
         void standAt(int newPlace) {
             place = newPlace;
             station = NONE;
             zone = NONE;
             age = NONE;
-            stopClamping();
         }
 
         void stopClamping() {

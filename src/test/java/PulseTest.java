@@ -6,7 +6,9 @@ public final class PulseTest {
         emptyRopeMoves();
         wrongInputsMoveNothing();
         cabinsMoveAndLetGo();
-        heldUpCabinStopsTheRope();
+        for (int behind : new int[] {2, 0, 59}) {
+            heldUpCabinStopsTheRope(behind);
+        }
         bumpComesWithTheNextMoveOnly();
         firstOfAllTheyLetGo();
         oneHeldUpStopsTheOtherSideToo();
@@ -49,17 +51,17 @@ public final class PulseTest {
         }
     }
 
-    private static void heldUpCabinStopsTheRope() {
+    private static void heldUpCabinStopsTheRope(int behind) {
         RopewayDesk desk = new RopewayDesk();
         Scenes.toRope(desk, 0, 1);
         desk.pulse(200);
-        Scenes.toRope(desk, 0, 2);
+        Scenes.toRope(desk, 0, behind);
         Scenes.pulses(desk, 5400);
         CHECKS.due("pulse(600)", desk.pulse(600), 300);
         CHECKS.due("locks()", desk.locks(), 8);
         CHECKS.due("where(1, 1)", desk.where(1, 1), 1);
-        CHECKS.due("where(2, 1)", desk.where(2, 1), 5700);
-        CHECKS.due("where(2, 0)", desk.where(2, 0), 3);
+        CHECKS.due("where(" + behind + ", 1)", desk.where(behind, 1), 5700);
+        CHECKS.due("where(" + behind + ", 0)", desk.where(behind, 0), 3);
         CHECKS.due("pulse(600)", desk.pulse(600), 0);
         CHECKS.due("state(9)", desk.state(9), 5900);
     }

@@ -22,7 +22,10 @@ public final class TickTest {
         spacingIsOfTheStation();
         windLocks();
         windSlows();
-        speedAtAnArrival();
+        for (int station = 0; station < 2; station++) {
+            speedAtAnArrival(station, 1, 0);
+            speedAtAnArrival(station, 1, 59);
+        }
         CHECKS.end();
     }
 
@@ -345,30 +348,31 @@ public final class TickTest {
         CHECKS.due("tick(9) with the wind gone", desk.tick(9), 5);
     }
 
-    private static void speedAtAnArrival() {
-        for (int station = 0; station < 2; station++) {
-            RopewayDesk desk = new RopewayDesk();
-            desk.drive(3);
-            Scenes.rowOf(desk, station, 10, 7);
-            Scenes.ticks(desk, 30);
-            desk.gauge(station, 9000, 9000);
-            desk.tick(1);
-            desk.pulse(90);
-            desk.tick(15);
-            desk.gauge(station, 9000, 9000);
-            desk.tick(1);
-            CHECKS.due("where(11, 0) of the second one", desk.where(11, 0), 3);
-            Scenes.pulses(desk, 5610);
-            CHECKS.due("where(10, 1)", desk.where(10, 1), 1);
-            CHECKS.due("where(11, 1)", desk.where(11, 1), 5610);
-            CHECKS.due("tick(1)", desk.tick(1), 3);
-            desk.pulse(29);
-            CHECKS.due("tick(1) with 5639 done", desk.tick(1), 3);
-            desk.pulse(1);
-            CHECKS.due("tick(1) with 5640 done", desk.tick(1), 2);
-            CHECKS.due("tick(9) with 5640 done", desk.tick(9), 0);
-            CHECKS.due("tick(2) before zone 1 is empty", desk.tick(2), 0);
-            CHECKS.due("tick(1) when zone 1 is empty", desk.tick(1), 1);
-        }
+    private static void speedAtAnArrival(int station, int ahead, int behind) {
+        RopewayDesk desk = new RopewayDesk();
+        desk.drive(3);
+        Scenes.toZone5(desk, station, ahead);
+        desk.tick(15);
+        Scenes.toZone5(desk, station, behind);
+        desk.tick(15);
+        Scenes.rowOf(desk, station, 10, 5);
+        Scenes.ticks(desk, 30);
+        desk.gauge(station, 9000, 9000);
+        desk.tick(1);
+        desk.pulse(90);
+        desk.tick(15);
+        desk.gauge(station, 9000, 9000);
+        desk.tick(1);
+        Scenes.pulses(desk, 5610);
+        CHECKS.due("where of the one ahead", desk.where(ahead, 1), 1);
+        CHECKS.due("where of the one behind", desk.where(behind, 1), 5610);
+        CHECKS.due("tick(1) with 5610 done", desk.tick(1), 3);
+        desk.pulse(29);
+        CHECKS.due("tick(1) with 5639 done", desk.tick(1), 3);
+        desk.pulse(1);
+        CHECKS.due("tick(1) with 5640 done", desk.tick(1), 2);
+        CHECKS.due("tick(9) with 5640 done", desk.tick(9), 0);
+        CHECKS.due("tick(2) before zone 1 is empty", desk.tick(2), 0);
+        CHECKS.due("tick(1) when zone 1 is empty", desk.tick(1), 1);
     }
 }

@@ -5,7 +5,9 @@
  */
 public final class ModelTest {
     private static final int RUNS = 300;
+    /** An object's answers are free after its 512th call, and one step makes three calls at most. */
     private static final int CALLS = 512;
+    private static final int CALLS_OF_A_STEP = 3;
     private static final Checks CHECKS = new Checks("ModelTest");
 
     private static final int[] SEEN_LOCKS = new int[16];
@@ -50,7 +52,7 @@ public final class ModelTest {
     }
 
     private void play() {
-        while (calls < CALLS) {
+        while (calls + CALLS_OF_A_STEP <= CALLS) {
             if (below(100) < 35) {
                 ask();
             } else {

@@ -1,83 +1,101 @@
 /** Promise 9. */
 public final class TakeOffTest {
     private static final Checks CHECKS = new Checks("TakeOffTest");
+    private static final Refusals REFUSALS = new Refusals(CHECKS);
 
     public static void main(String[] args) {
-        zones5To8();
-        notFromZones1To4();
-        onlyWhereItIs();
-        onlyWithRoom();
         wrongInputs();
+        for (int station = 0; station < 2; station++) {
+            for (int zone = 5; zone <= 8; zone++) {
+                comesToTheEnd(station, zone);
+            }
+            notInThoseZones(station);
+            notThere(station);
+            noRoom(station);
+        }
+        waitingOnesToo();
         CHECKS.end();
     }
 
-    private static void zones5To8() {
-        for (int station = 0; station < 2; station++) {
-            for (int zone = 5; zone <= 12; zone++) {
-                RopewayDesk desk = new RopewayDesk();
-                Scenes.toZone5(desk, station, 1);
-                desk.bring(2);
-                Scenes.ticks(desk, 15 * (zone - 5) + 3);
-                CHECKS.due("where(1, 1)", desk.where(1, 1), zone);
-                CHECKS.due("takeOff of zone " + zone, desk.takeOff(station, 1) ? 1 : 0, zone <= 8 ? 1 : 0);
-                CHECKS.due("where(1, 0)", desk.where(1, 0), zone <= 8 ? 1 : 2);
-                CHECKS.due("where(1, 1)", desk.where(1, 1), zone <= 8 ? 1 : zone);
-                CHECKS.due("where(1, 2)", desk.where(1, 2), zone <= 8 ? -1 : station);
-                CHECKS.due("where(1, 3)", desk.where(1, 3), zone <= 8 ? -1 : 3);
-                CHECKS.due("where(1, 5)", desk.where(1, 5), 0);
-                CHECKS.due("state(6)", desk.state(6), zone <= 8 ? 0 : 1);
-                CHECKS.yes("putOn into the zones", desk.putOn(station, 2));
-            }
-        }
-    }
-
-    private static void notFromZones1To4() {
-        RopewayDesk desk = new RopewayDesk();
-        Scenes.toRope(desk, 1, 1);
-        Scenes.pulses(desk, 5700);
-        for (int zone = 1; zone <= 4; zone++) {
-            CHECKS.due("where(1, 1)", desk.where(1, 1), zone);
-            CHECKS.no("takeOff of zone " + zone, desk.takeOff(0, 1));
-            desk.tick(15);
-        }
-        CHECKS.yes("takeOff of zone 5", desk.takeOff(0, 1));
-    }
-
-    private static void onlyWhereItIs() {
-        RopewayDesk desk = new RopewayDesk();
-        CHECKS.no("takeOff of one that is away", desk.takeOff(0, 1));
-        desk.bring(1);
-        CHECKS.no("takeOff of one in the siding", desk.takeOff(0, 1));
-        desk.putOn(0, 1);
-        CHECKS.no("takeOff of the other station", desk.takeOff(1, 1));
-        CHECKS.due("where(1, 0)", desk.where(1, 0), 2);
-        Scenes.ticks(desk, 120);
-        desk.gauge(0, 9000, 9000);
-        desk.tick(1);
-        CHECKS.no("takeOff of one on the rope", desk.takeOff(0, 1));
-        desk.pulse(7);
-        CHECKS.no("takeOff of one that has done 7", desk.takeOff(0, 1));
-    }
-
-    private static void onlyWithRoom() {
-        RopewayDesk desk = new RopewayDesk();
-        Scenes.toZone5(desk, 0, 50);
-        Scenes.bringRow(desk, 0, 20);
-        CHECKS.no("takeOff without room", desk.takeOff(0, 50));
-        CHECKS.due("where(50, 1)", desk.where(50, 1), 5);
-        CHECKS.due("locks()", desk.locks(), 0);
-        desk.putOn(1, 0);
-        CHECKS.yes("takeOff with room", desk.takeOff(0, 50));
-        CHECKS.due("sided(19)", desk.sided(19), 50);
-    }
-
     private static void wrongInputs() {
+        CHECKS.sentence("IllegalArgumentException: no such station or cabin.");
+        REFUSALS.beyond("takeOff, station", 0, 1, (desk, station) -> desk.takeOff(station, 59));
+        REFUSALS.beyond("takeOff, cabin", 0, 59, (desk, cabin) -> desk.takeOff(0, cabin));
+        REFUSALS.byException("takeOff(2, ..) of one that is away", RopewayDesk::new, desk -> desk.takeOff(2, 0));
+        REFUSALS.byException("takeOff(1, 60) without room", Scenes::fullSiding, desk -> desk.takeOff(1, 60));
+    }
+
+    private static RopewayDesk inZone(int station, int zone) {
+        RopewayDesk desk = Scenes.inZone1(station, 1);
+        Scenes.ticks(desk, 15 * (zone - 1) + 3);
+        Scenes.bringRow(desk, 20, 2);
+        return desk;
+    }
+
+    private static void comesToTheEnd(int station, int zone) {
+        CHECKS.sentence("A cabin in a zone 5 to 8 of a station comes to the end of the siding: true");
+        RopewayDesk desk = inZone(station, zone);
+        CHECKS.where("before", desk, 1, 2, zone, station, 3);
+        CHECKS.yes("takeOff of zone " + zone, desk.takeOff(station, 1));
+        CHECKS.where("after", desk, 1, 1, 2, -1, -1, -1, 0, 1, 0);
+        CHECKS.due("sided(2)", desk.sided(2), 1);
+        CHECKS.due("state(6)", desk.state(6), 0);
+        CHECKS.yes("putOn behind it", desk.putOn(station, 20));
+        Scenes.ticks(desk, 60);
+        CHECKS.where("of the next one, with the zone empty", desk, 20, 2, 9, station, 0);
+        CHECKS.no("takeOff once more", desk.takeOff(station, 1));
+    }
+
+    private static void notInThoseZones(int station) {
+        CHECKS.sentence("false when it is not there, or there is no room.");
+        for (int zone : new int[] {1, 2, 3, 4, 9, 10, 11, 12}) {
+            CHECKS.where("before", inZone(station, zone), 1, 2, zone, station, 3);
+            REFUSALS.byFalse("takeOff of zone " + zone, () -> inZone(station, zone), desk -> desk.takeOff(station, 1));
+        }
+        REFUSALS.byFalse("takeOff of one that is clamping", () -> Scenes.clamping(station, 5), desk -> desk.takeOff(station, 5));
+    }
+
+    private static void notThere(int station) {
+        CHECKS.sentence("false when it is not there, or there is no room.");
+        REFUSALS.byFalse("takeOff of one that is away", RopewayDesk::new, desk -> desk.takeOff(station, 1));
+        REFUSALS.byFalse("takeOff of one in the siding", Scenes::fullSiding, desk -> desk.takeOff(station, 6));
+        REFUSALS.byFalse("takeOff of one in the siding", Scenes::busy, desk -> desk.takeOff(station, 12));
+        for (int zone = 5; zone <= 8; zone++) {
+            int z = zone;
+            REFUSALS.byFalse("takeOff of the other station", () -> inZone(1 - station, z), desk -> desk.takeOff(station, 1));
+        }
+        for (int done : new int[] {0, 5, 8, 5699}) {
+            REFUSALS.byFalse("takeOff of one on the rope", () -> Scenes.onRope(station, 1, done), desk -> desk.takeOff(station, 1));
+        }
+    }
+
+    private static RopewayDesk withSided(int station, int n) {
         RopewayDesk desk = new RopewayDesk();
-        Scenes.toZone5(desk, 0, 1);
-        CHECKS.refused("takeOff(-1, 1)", () -> desk.takeOff(-1, 1));
-        CHECKS.refused("takeOff(2, 1)", () -> desk.takeOff(2, 1));
-        CHECKS.refused("takeOff(0, -1)", () -> desk.takeOff(0, -1));
-        CHECKS.refused("takeOff(0, 60)", () -> desk.takeOff(0, 60));
-        CHECKS.due("where(1, 0) after wrong inputs", desk.where(1, 0), 2);
+        Scenes.toZone5(desk, station, 50);
+        Scenes.bringRow(desk, 0, n);
+        return desk;
+    }
+
+    private static void noRoom(int station) {
+        CHECKS.sentence("false when it is not there, or there is no room.");
+        REFUSALS.byFalse("takeOff with twenty in the siding", () -> withSided(station, 20), desk -> desk.takeOff(station, 50));
+        for (int n : new int[] {0, 19}) {
+            RopewayDesk desk = withSided(station, n);
+            CHECKS.yes("takeOff with " + n + " in the siding", desk.takeOff(station, 50));
+            CHECKS.due("sided(" + n + ")", desk.sided(n), 50);
+            CHECKS.due("locks()", desk.locks(), 0);
+        }
+    }
+
+    private static void waitingOnesToo() {
+        CHECKS.sentence("A cabin in a zone 5 to 8 of a station comes to the end of the siding: true");
+        RopewayDesk desk = Scenes.jam();
+        desk.tick(100);
+        for (int cabin = 3; cabin <= 8; cabin++) {
+            boolean there = cabin >= 4 && cabin <= 7;
+            CHECKS.due("takeOff(0, " + cabin + ") in a jam", desk.takeOff(0, cabin) ? 1 : 0, there ? 1 : 0);
+        }
+        CHECKS.due("state(4)", desk.state(4), 4);
+        CHECKS.due("state(6)", desk.state(6), 8);
     }
 }

@@ -1,378 +1,214 @@
-/** Promise 3, and the term TICK. */
+/** Promise 3, and of the term TICK the wind's lock and the SPEED. */
 public final class TickTest {
     private static final Checks CHECKS = new Checks("TickTest");
+    private static final Refusals REFUSALS = new Refusals(CHECKS);
 
     public static void main(String[] args) {
-        speedGoesByOne();
         wrongInputs();
-        zonesTakeFifteenTicks();
-        nextZoneMustBeEmpty();
-        oneComesWhenTheOtherLeaves();
-        clampingWaitsForItsAge();
-        provedGrip();
-        noReport();
-        reportOnTheFortiethTick();
-        failedOneGoesToTheSiding();
-        failedOneWithoutRoomStays();
-        everyLockHoldsClampingBack();
-        clampingGoesOnUnderALock();
-        station0IsWorkedFirst();
-        spacingByPlan();
-        spacingWithACrowd();
-        spacingIsOfTheStation();
+        ticksAreCounted();
         windLocks();
-        windSlows();
+        gustsDoNotCount();
+        windLocksBeforeTheZones();
+        speedGoesByOne();
+        locksStopTheRope();
+        lockOfTheSameTickCounts();
         for (int station = 0; station < 2; station++) {
-            speedAtAnArrival(station, 1, 0);
-            speedAtAnArrival(station, 1, 59);
+            nearAnArrival(station, 1, 0);
+            nearAnArrival(station, 0, 59);
+            atTheEnd(station);
+            zone1BehindDoesNotCount(station);
+            otherZonesAheadDoNotCount(station);
         }
+        windSlows();
         CHECKS.end();
     }
 
-    private static void speedGoesByOne() {
-        RopewayDesk desk = new RopewayDesk();
-        CHECKS.due("tick(1) with DRIVE 0", desk.tick(1), 0);
-        desk.drive(5);
-        for (int i = 1; i <= 5; i++) {
-            CHECKS.due("tick(1) going up", desk.tick(1), i);
-        }
-        CHECKS.due("tick(1) at the target", desk.tick(1), 5);
-        desk.drive(2);
-        CHECKS.due("tick(1) going down", desk.tick(1), 4);
-        CHECKS.due("tick(100)", desk.tick(100), 2);
-        CHECKS.due("state(8)", desk.state(8), 108);
-    }
-
     private static void wrongInputs() {
+        CHECKS.sentence("IllegalArgumentException: n is not 1 .. 100.");
+        REFUSALS.beyond("tick", 1, 100, RopewayDesk::tick);
+        REFUSALS.byException("tick of -1", Scenes::busy, desk -> desk.tick(-1));
+    }
+
+    private static void ticksAreCounted() {
+        CHECKS.sentence("n times TICK: the SPEED.");
         RopewayDesk desk = new RopewayDesk();
-        desk.drive(3);
-        for (int n : new int[] {0, -1, 101, Integer.MIN_VALUE, Integer.MAX_VALUE}) {
-            CHECKS.refused("tick(" + n + ")", () -> desk.tick(n));
-        }
-        CHECKS.due("state(8) after wrong inputs", desk.state(8), 0);
-        CHECKS.due("state(0) after wrong inputs", desk.state(0), 0);
-    }
-
-    private static void zonesTakeFifteenTicks() {
-        RopewayDesk desk = new RopewayDesk();
-        Scenes.toRope(desk, 0, 1);
-        Scenes.pulses(desk, 5700);
-        for (int tick = 0; tick < 165; tick++) {
-            CHECKS.due("where(1, 1) after " + tick, desk.where(1, 1), 1 + tick / 15);
-            CHECKS.due("where(1, 3) after " + tick, desk.where(1, 3), tick % 15);
-            desk.tick(1);
-        }
-        CHECKS.due("where(1, 1)", desk.where(1, 1), 12);
-    }
-
-    private static void nextZoneMustBeEmpty() {
-        RopewayDesk desk = new RopewayDesk();
-        desk.wind(300);
-        Scenes.rowOf(desk, 0, 1, 2);
-        Scenes.ticks(desk, 90);
-        CHECKS.due("where(1, 1)", desk.where(1, 1), 12);
-        CHECKS.due("where(2, 1)", desk.where(2, 1), 11);
-        Scenes.ticks(desk, 50);
-        CHECKS.due("where(2, 1) behind a taken zone", desk.where(2, 1), 11);
-        CHECKS.due("where(2, 3) behind a taken zone", desk.where(2, 3), 50);
-        CHECKS.due("where(1, 3)", desk.where(1, 3), 50);
-        CHECKS.due("where(1, 4) while a lock stands", desk.where(1, 4), -1);
-    }
-
-    private static void oneComesWhenTheOtherLeaves() {
-        RopewayDesk desk = new RopewayDesk();
-        Scenes.rowOf(desk, 0, 1, 2);
-        Scenes.ticks(desk, 105);
-        CHECKS.due("where(1, 4)", desk.where(1, 4), 0);
-        CHECKS.due("where(2, 3)", desk.where(2, 3), 15);
-        desk.tick(2);
-        desk.gauge(0, 9000, 9000);
-        desk.tick(1);
-        CHECKS.due("where(1, 0)", desk.where(1, 0), 3);
-        CHECKS.due("where(2, 1)", desk.where(2, 1), 12);
-        CHECKS.due("where(2, 3)", desk.where(2, 3), 0);
-        CHECKS.due("where(2, 4)", desk.where(2, 4), -1);
-    }
-
-    private static void clampingWaitsForItsAge() {
-        RopewayDesk desk = new RopewayDesk();
-        Scenes.toZone5(desk, 1, 1);
-        Scenes.ticks(desk, 119);
-        CHECKS.due("where(1, 3)", desk.where(1, 3), 14);
-        CHECKS.due("where(1, 4)", desk.where(1, 4), -1);
-        desk.tick(1);
-        CHECKS.due("where(1, 3)", desk.where(1, 3), 15);
-        CHECKS.due("where(1, 4)", desk.where(1, 4), 0);
-        desk.tick(1);
-        CHECKS.due("where(1, 3) goes on", desk.where(1, 3), 16);
-        CHECKS.due("where(1, 4) goes on", desk.where(1, 4), 1);
-    }
-
-    private static void provedGrip() {
-        int[][] leftRightFault = {
-            {4001, 4001, 0}, {4000, 4001, 1}, {4001, 4000, 1}, {4000, 4000, 1}, {0, 20000, 1}, {20000, 0, 1},
-            {0, 0, 1}, {20000, 20000, 0}, {10000, 9700, 0}, {9700, 10000, 0}, {10000, 9699, 2}, {9699, 10000, 2},
-            {5000, 5154, 0}, {5000, 5155, 2}, {5154, 5000, 0}, {5155, 5000, 2}, {4001, 20000, 2}, {20000, 4001, 2},
-            {19400, 20000, 0}, {19399, 20000, 2},
-        };
-        for (int[] row : leftRightFault) {
-            RopewayDesk desk = new RopewayDesk();
-            Scenes.toClamping(desk, 0, 1);
-            desk.gauge(0, row[0], row[1]);
-            desk.tick(1);
-            String call = " with " + row[0] + " and " + row[1];
-            CHECKS.due("where(1, 0)" + call, desk.where(1, 0), row[2] == 0 ? 3 : 1);
-            CHECKS.due("where(1, 6)" + call, desk.where(1, 6), row[2] == 0 ? 1 : 0);
-            CHECKS.due("where(1, 7)" + call, desk.where(1, 7), row[2]);
-            CHECKS.due("locks()" + call, desk.locks(), row[2] == 0 ? 0 : 1);
-        }
-    }
-
-    private static void noReport() {
-        RopewayDesk desk = new RopewayDesk();
-        Scenes.toClamping(desk, 0, 1);
-        Scenes.ticks(desk, 39);
-        CHECKS.due("where(1, 4)", desk.where(1, 4), 39);
-        CHECKS.due("locks()", desk.locks(), 0);
-        desk.tick(1);
-        CHECKS.due("where(1, 0)", desk.where(1, 0), 1);
-        CHECKS.due("where(1, 4)", desk.where(1, 4), -1);
-        CHECKS.due("where(1, 7)", desk.where(1, 7), 3);
-        CHECKS.due("locks()", desk.locks(), 1);
-    }
-
-    private static void reportOnTheFortiethTick() {
-        RopewayDesk desk = new RopewayDesk();
-        Scenes.toClamping(desk, 0, 1);
-        Scenes.ticks(desk, 39);
-        desk.gauge(0, 9000, 9000);
-        desk.tick(1);
-        CHECKS.due("where(1, 0) with a good report", desk.where(1, 0), 3);
-        CHECKS.due("where(1, 7) with a good report", desk.where(1, 7), 0);
-        RopewayDesk bad = new RopewayDesk();
-        Scenes.toClamping(bad, 0, 1);
-        Scenes.ticks(bad, 39);
-        bad.gauge(0, 5000, 9000);
-        bad.tick(1);
-        CHECKS.due("where(1, 7) with a bad report", bad.where(1, 7), 2);
-    }
-
-    private static void failedOneGoesToTheSiding() {
-        RopewayDesk desk = new RopewayDesk();
-        Scenes.toClamping(desk, 1, 1);
-        Scenes.bringRow(desk, 20, 19);
-        desk.gauge(1, 1, 1);
-        desk.tick(1);
-        CHECKS.due("sided(19)", desk.sided(19), 1);
-        CHECKS.due("locks() with the last place taken", desk.locks(), 1);
-        CHECKS.due("state(6)", desk.state(6), 0);
-        CHECKS.due("where(1, 3)", desk.where(1, 3), -1);
-        CHECKS.no("gauge of the empty zone", desk.gauge(1, 9000, 9000));
-    }
-
-    private static void failedOneWithoutRoomStays() {
-        RopewayDesk desk = new RopewayDesk();
-        Scenes.toClamping(desk, 1, 1);
-        Scenes.bringRow(desk, 20, 20);
-        desk.gauge(1, 1, 1);
-        desk.tick(1);
-        CHECKS.due("locks()", desk.locks(), 3);
-        CHECKS.due("where(1, 1)", desk.where(1, 1), 12);
-        CHECKS.due("where(1, 3)", desk.where(1, 3), 0);
-        CHECKS.due("where(1, 4)", desk.where(1, 4), -1);
-        CHECKS.due("where(1, 7)", desk.where(1, 7), 1);
-        desk.release(0);
-        desk.putOn(0, 20);
-        desk.release(1);
-        CHECKS.due("locks()", desk.locks(), 0);
-        desk.tick(14);
-        CHECKS.due("where(1, 4) with AGE 14", desk.where(1, 4), -1);
-        desk.tick(1);
-        CHECKS.due("where(1, 4) with AGE 15", desk.where(1, 4), 0);
-        desk.tick(1);
-        CHECKS.due("where(1, 4) without the old report", desk.where(1, 4), 1);
-    }
-
-    private static void everyLockHoldsClampingBack() {
-        RopewayDesk desk = new RopewayDesk();
-        Scenes.toZone5(desk, 1, 1);
-        Scenes.toClamping(desk, 0, 2);
-        CHECKS.due("where(1, 4) without a lock", desk.where(1, 4), 0);
-
-        RopewayDesk gripped = new RopewayDesk();
-        Scenes.toClamping(gripped, 0, 2);
-        Scenes.toZone5(gripped, 1, 1);
-        Scenes.ticks(gripped, 120);
-        CHECKS.due("locks()", gripped.locks(), 1);
-        CHECKS.due("where(1, 4) with GRIP", gripped.where(1, 4), -1);
-        gripped.release(0);
-        gripped.tick(1);
-        CHECKS.due("where(1, 4) after the release", gripped.where(1, 4), 0);
-
-        RopewayDesk bumped = Scenes.heldUp(1, 2);
-        bumped.pulse(1);
-        Scenes.toClamping(bumped, 0, 3);
-        CHECKS.due("where(3, 4) with BUMP", bumped.where(3, 4), -1);
-        CHECKS.due("where(3, 3) with BUMP", bumped.where(3, 3), 15);
-
-        RopewayDesk full = new RopewayDesk();
-        Scenes.toClamping(full, 0, 1);
-        Scenes.bringRow(full, 20, 20);
-        Scenes.ticks(full, 40);
-        CHECKS.due("locks()", full.locks(), 3);
-        full.release(0);
-        Scenes.ticks(full, 30);
-        CHECKS.due("where(1, 4) with FULL", full.where(1, 4), -1);
-        CHECKS.due("where(1, 3) with FULL", full.where(1, 3), 30);
-    }
-
-    private static void clampingGoesOnUnderALock() {
-        RopewayDesk desk = new RopewayDesk();
-        Scenes.toClamping(desk, 0, 1);
-        desk.wind(900);
-        desk.tick(1);
-        CHECKS.due("locks()", desk.locks(), 4);
-        CHECKS.due("where(1, 4)", desk.where(1, 4), 1);
-        desk.gauge(0, 9000, 9000);
-        desk.tick(1);
-        CHECKS.due("where(1, 0)", desk.where(1, 0), 3);
-        CHECKS.due("where(1, 6)", desk.where(1, 6), 1);
-    }
-
-    private static void station0IsWorkedFirst() {
-        for (int failing = 0; failing < 2; failing++) {
-            RopewayDesk desk = new RopewayDesk();
-            Scenes.toZone5(desk, failing, 1);
-            desk.tick(40);
-            Scenes.toZone5(desk, 1 - failing, 2);
-            Scenes.ticks(desk, 119);
-            CHECKS.due("where(1, 4)", desk.where(1, 4), 39);
-            CHECKS.due("where(2, 3)", desk.where(2, 3), 14);
-            desk.tick(1);
-            CHECKS.due("locks()", desk.locks(), 1);
-            CHECKS.due("where(2, 4) with station " + failing + " failing", desk.where(2, 4), failing == 0 ? -1 : 0);
-        }
-    }
-
-    private static void spacingByPlan() {
-        int[][] perHourAndSpacing = {{900, 200}, {886, 200}, {885, 203}, {600, 300}, {105, 1714}, {30, 6000}};
-        for (int[] row : perHourAndSpacing) {
-            RopewayDesk desk = new RopewayDesk();
-            desk.plan(row[0]);
-            Scenes.toRope(desk, 0, 1);
-            Scenes.toClamping(desk, 0, 2);
-            CHECKS.due("where(2, 4) with 0 done", desk.where(2, 4), -1);
-            int before = Math.min(row[1], 5700) - 1;
-            Scenes.pulses(desk, before);
-            desk.tick(1);
-            CHECKS.due("where(2, 4) with " + before + " done", desk.where(2, 4), -1);
-            desk.pulse(1);
-            desk.tick(1);
-            CHECKS.due("where(2, 4) with one more done", desk.where(2, 4), 0);
-        }
-    }
-
-    private static void spacingWithACrowd() {
-        for (int cabins = 5; cabins <= 6; cabins++) {
-            RopewayDesk desk = new RopewayDesk();
-            Scenes.toRope(desk, 0, 50);
-            desk.pulse(89);
-            Scenes.rowOf(desk, 0, 1, cabins);
-            Scenes.ticks(desk, 120 - 15 * (cabins - 1));
-            CHECKS.due("where(1, 3)", desk.where(1, 3), 15);
-            CHECKS.due("where(1, 4) with 89 done and " + cabins, desk.where(1, 4), -1);
-            desk.pulse(1);
-            desk.tick(1);
-            CHECKS.due("where(1, 4) with 90 done and " + cabins, desk.where(1, 4), cabins == 6 ? 0 : -1);
-            desk.pulse(109);
-            desk.tick(1);
-            CHECKS.due("where(1, 4) with 199 done and " + cabins, desk.where(1, 4), cabins == 6 ? 1 : -1);
-            desk.pulse(1);
-            desk.tick(1);
-            CHECKS.due("where(1, 4) with 200 done and " + cabins, desk.where(1, 4), cabins == 6 ? 2 : 0);
-        }
-        crowdOfTheOtherStationDoesNotCount();
-    }
-
-    private static void crowdOfTheOtherStationDoesNotCount() {
-        RopewayDesk desk = new RopewayDesk();
-        Scenes.toRope(desk, 0, 50);
-        desk.pulse(100);
-        Scenes.toZone5(desk, 0, 10);
-        Scenes.rowOf(desk, 1, 1, 6);
-        Scenes.ticks(desk, 45);
-        CHECKS.due("where(10, 3)", desk.where(10, 3), 15);
-        CHECKS.due("state(6)", desk.state(6), 7);
-        CHECKS.due("locks()", desk.locks(), 0);
-        CHECKS.due("where(1, 4)", desk.where(1, 4), 0);
-        CHECKS.due("where(10, 4)", desk.where(10, 4), -1);
-    }
-
-    private static void spacingIsOfTheStation() {
-        RopewayDesk desk = new RopewayDesk();
-        Scenes.toRope(desk, 0, 1);
-        Scenes.toClamping(desk, 1, 2);
-        CHECKS.due("where(2, 4) with one just left station 0", desk.where(2, 4), 0);
+        Scenes.toZone5(desk, 0, 1);
+        desk.drive(5);
+        CHECKS.due("tick(1)", desk.tick(1), 1);
+        CHECKS.due("where(1, 3)", desk.where(1, 3), 1);
+        CHECKS.due("tick(2)", desk.tick(2), 3);
+        CHECKS.due("tick(100)", desk.tick(100), 5);
+        CHECKS.due("state(8)", desk.state(8), 103);
+        CHECKS.where("after 103 ticks", desk, 1, 2, 11, 0, 13);
     }
 
     private static void windLocks() {
+        CHECKS.sentence("When the WIND is above 250, WIND stands.");
         RopewayDesk desk = new RopewayDesk();
-        desk.drive(2);
-        desk.tick(3);
         desk.wind(250);
-        desk.tick(1);
+        desk.tick(100);
         CHECKS.due("locks() with 250", desk.locks(), 0);
         desk.wind(251);
+        CHECKS.due("state(3)", desk.state(3), 251);
         CHECKS.due("locks() before the tick", desk.locks(), 0);
-        CHECKS.due("tick(1)", desk.tick(1), 1);
+        desk.tick(1);
         CHECKS.due("locks() with 251", desk.locks(), 4);
         Scenes.report(desk, 0, 0, 0);
-        CHECKS.due("tick(1) with the lock standing", desk.tick(1), 0);
+        desk.tick(1);
         CHECKS.due("locks() with the wind gone", desk.locks(), 4);
+        desk.release(2);
+        desk.tick(1);
+        CHECKS.due("locks() after the release", desk.locks(), 0);
+        Scenes.report(desk, 1000, 1000, 1000);
+        desk.tick(1);
+        CHECKS.due("locks() with 1,000", desk.locks(), 4);
+    }
+
+    private static void gustsDoNotCount() {
+        CHECKS.sentence("When the WIND is above 250, WIND stands.");
+        RopewayDesk desk = new RopewayDesk();
+        desk.drive(4);
+        Scenes.report(desk, 180, 180, 1000);
+        CHECKS.due("tick(4) in a gust", desk.tick(4), 4);
+        CHECKS.due("locks() in a gust", desk.locks(), 0);
+        Scenes.report(desk, 1000, 0);
+        CHECKS.due("tick(1) with two gusts of five", desk.tick(1), 4);
+        CHECKS.due("locks() with two gusts of five", desk.locks(), 0);
+        Scenes.report(desk, 251, 0);
+        CHECKS.due("state(3) with three gusts of five", desk.state(3), 251);
+        desk.tick(1);
+        CHECKS.due("locks() with three gusts of five", desk.locks(), 4);
+    }
+
+    private static void windLocksBeforeTheZones() {
+        CHECKS.sentence("TICK, in this order:");
+        RopewayDesk desk = new RopewayDesk();
+        Scenes.toZone5(desk, 0, 1);
+        Scenes.ticks(desk, 119);
+        desk.wind(251);
+        desk.tick(1);
+        CHECKS.where("in the tick that locks", desk, 1, 2, 12, 0, 15, -1);
+    }
+
+    private static void speedGoesByOne() {
+        CHECKS.sentence("The SPEED goes to its target, by at most one");
+        RopewayDesk desk = new RopewayDesk();
+        CHECKS.due("tick(1) with DRIVE 0", desk.tick(1), 0);
+        desk.drive(5);
+        for (int speed = 1; speed <= 5; speed++) {
+            CHECKS.due("tick(1) going up", desk.tick(1), speed);
+            CHECKS.due("state(0) going up", desk.state(0), speed);
+        }
+        CHECKS.due("tick(1) at the target", desk.tick(1), 5);
+        desk.drive(4);
+        CHECKS.due("tick(1) one above the target", desk.tick(1), 4);
+        CHECKS.due("tick(1) at the target", desk.tick(1), 4);
+        desk.drive(0);
+        for (int speed = 3; speed >= 0; speed--) {
+            CHECKS.due("tick(1) going down", desk.tick(1), speed);
+        }
+        CHECKS.due("tick(1) at 0", desk.tick(1), 0);
+    }
+
+    private static void locksStopTheRope() {
+        CHECKS.sentence("the target is 0 when a lock stands");
+        for (int code = 0; code < 4; code++) {
+            RopewayDesk desk = Scenes.locked(code);
+            CHECKS.due("locks()", desk.locks(), 1 << code);
+            CHECKS.due("state(1)", desk.state(1), 3);
+            CHECKS.due("tick(1) with lock " + code, desk.tick(1), 0);
+            Scenes.mend(desk, code);
+            CHECKS.due("tick(1) with lock " + code + " without its cause", desk.tick(1), 0);
+            CHECKS.yes("release(" + code + ")", desk.release(code));
+            CHECKS.due("tick(1) after the release", desk.tick(1), 1);
+        }
+        RopewayDesk desk = new RopewayDesk();
+        desk.drive(3);
+        desk.tick(3);
+        desk.wind(251);
+        for (int speed = 2; speed >= 0; speed--) {
+            CHECKS.due("tick(1) with WIND", desk.tick(1), speed);
+        }
+        CHECKS.due("tick(1) with WIND at 0", desk.tick(1), 0);
+    }
+
+    private static void lockOfTheSameTickCounts() {
+        CHECKS.sentence("the target is 0 when a lock stands");
+        for (int station = 0; station < 2; station++) {
+            RopewayDesk desk = Scenes.clamping(station, 1);
+            desk.drive(4);
+            desk.tick(4);
+            desk.gauge(station, 0, 0);
+            CHECKS.due("tick(1) in which a grip fails", desk.tick(1), 3);
+        }
+    }
+
+    private static void nearAnArrival(int station, int ahead, int behind) {
+        CHECKS.sentence("or a cabin that has done 5,640 or more has zone 1 ahead taken");
+        RopewayDesk desk = Scenes.ninetyApart(station, ahead, behind);
+        desk.drive(3);
+        desk.tick(3);
+        Scenes.pulses(desk, 5610);
+        CHECKS.where("of the one ahead", desk, ahead, 2, 1, 1 - station);
+        CHECKS.due("tick(1) with 5,610 done", desk.tick(1), 3);
+        desk.pulse(29);
+        CHECKS.due("tick(1) with 5,639 done", desk.tick(1), 3);
+        desk.pulse(1);
+        CHECKS.due("tick(1) with 5,640 done", desk.tick(1), 2);
+        desk.pulse(1);
+        CHECKS.due("tick(1) with 5,641 done", desk.tick(1), 1);
+        CHECKS.due("tick(10) with zone 1 taken", desk.tick(10), 0);
+        CHECKS.where("before zone 1 is empty", desk, ahead, 2, 1, 1 - station, 14);
+        CHECKS.due("tick(1) when zone 1 is empty", desk.tick(1), 1);
+    }
+
+    private static void atTheEnd(int station) {
+        CHECKS.sentence("or a cabin that has done 5,640 or more has zone 1 ahead taken");
+        RopewayDesk desk = Scenes.heldUp(station, 1, 2);
+        desk.drive(3);
+        CHECKS.due("tick(14) with 5,700 done and zone 1 taken", desk.tick(14), 0);
+        CHECKS.due("locks()", desk.locks(), 0);
+        CHECKS.due("tick(1) with 5,700 done and zone 1 empty", desk.tick(1), 1);
+    }
+
+    private static void zone1BehindDoesNotCount(int station) {
+        CHECKS.sentence("or a cabin that has done 5,640 or more has zone 1 ahead taken");
+        RopewayDesk desk = Scenes.onRope(1 - station, 1, 30);
+        Scenes.toRope(desk, station, 2);
+        Scenes.pulses(desk, 5670);
+        CHECKS.where("in zone 1 of the station that the other left", desk, 1, 2, 1, station);
+        CHECKS.where("near the end", desk, 2, 3, 5670, station);
+        desk.drive(3);
+        CHECKS.due("tick(3) with zone 1 behind taken", desk.tick(3), 3);
+    }
+
+    private static void otherZonesAheadDoNotCount(int station) {
+        CHECKS.sentence("or a cabin that has done 5,640 or more has zone 1 ahead taken");
+        RopewayDesk desk = Scenes.heldUp(station, 1, 2);
+        desk.tick(15);
+        desk.drive(3);
+        CHECKS.where("of the one ahead", desk, 1, 2, 2);
+        CHECKS.where("at the end", desk, 2, 3, 5700);
+        CHECKS.due("tick(3) with zone 2 ahead taken", desk.tick(3), 3);
     }
 
     private static void windSlows() {
-        RopewayDesk desk = new RopewayDesk();
-        desk.drive(4);
-        desk.wind(180);
-        CHECKS.due("tick(9) with 180", desk.tick(9), 4);
-        desk.wind(181);
-        CHECKS.due("tick(1) with 181", desk.tick(1), 3);
-        CHECKS.due("tick(9) with 181", desk.tick(9), 2);
-        desk.drive(1);
-        CHECKS.due("tick(9) with DRIVE 1", desk.tick(9), 1);
-        desk.drive(5);
-        CHECKS.due("tick(9) with DRIVE 5", desk.tick(9), 2);
-        CHECKS.due("state(1)", desk.state(1), 5);
-        Scenes.report(desk, 0, 0);
-        CHECKS.due("tick(9) with the wind gone", desk.tick(9), 5);
-    }
-
-    private static void speedAtAnArrival(int station, int ahead, int behind) {
-        RopewayDesk desk = new RopewayDesk();
-        desk.drive(3);
-        Scenes.toZone5(desk, station, ahead);
-        desk.tick(15);
-        Scenes.toZone5(desk, station, behind);
-        desk.tick(15);
-        Scenes.rowOf(desk, station, 10, 5);
-        Scenes.ticks(desk, 30);
-        desk.gauge(station, 9000, 9000);
-        desk.tick(1);
-        desk.pulse(90);
-        desk.tick(15);
-        desk.gauge(station, 9000, 9000);
-        desk.tick(1);
-        Scenes.pulses(desk, 5610);
-        CHECKS.due("where of the one ahead", desk.where(ahead, 1), 1);
-        CHECKS.due("where of the one behind", desk.where(behind, 1), 5610);
-        CHECKS.due("tick(1) with 5610 done", desk.tick(1), 3);
-        desk.pulse(29);
-        CHECKS.due("tick(1) with 5639 done", desk.tick(1), 3);
-        desk.pulse(1);
-        CHECKS.due("tick(1) with 5640 done", desk.tick(1), 2);
-        CHECKS.due("tick(9) with 5640 done", desk.tick(9), 0);
-        CHECKS.due("tick(2) before zone 1 is empty", desk.tick(2), 0);
-        CHECKS.due("tick(1) when zone 1 is empty", desk.tick(1), 1);
+        CHECKS.sentence("otherwise DRIVE, but at most 2 when the WIND is above 180.");
+        for (int step = 0; step <= 5; step++) {
+            RopewayDesk desk = new RopewayDesk();
+            desk.drive(step);
+            desk.wind(180);
+            CHECKS.due("tick(9) with 180 and DRIVE " + step, desk.tick(9), step);
+            desk.wind(181);
+            int slow = Math.min(step, 2);
+            CHECKS.due("tick(1) with 181 and DRIVE " + step, desk.tick(1), Math.max(step - 1, slow));
+            CHECKS.due("tick(9) with 181 and DRIVE " + step, desk.tick(9), slow);
+            Scenes.report(desk, 250, 250, 250);
+            CHECKS.due("tick(9) with 250 and DRIVE " + step, desk.tick(9), slow);
+            CHECKS.due("state(1)", desk.state(1), step);
+            CHECKS.due("locks() with 250", desk.locks(), 0);
+            Scenes.report(desk, 180, 180, 180);
+            CHECKS.due("tick(9) with 180 and DRIVE " + step, desk.tick(9), step);
+        }
     }
 }

@@ -1,88 +1,99 @@
 /** Promise 13. */
 public final class WhereTest {
     private static final Checks CHECKS = new Checks("WhereTest");
+    private static final Refusals REFUSALS = new Refusals(CHECKS);
 
     public static void main(String[] args) {
-        everyPlace();
-        doors();
-        tripsAndFaults();
-        othersAndWrongInputs();
+        wrongInputs();
+        others();
+        for (int cabin : new int[] {0, 8, 59}) {
+            everyPlace(cabin);
+        }
+        leastAndGreatestPlace();
+        for (int station = 0; station < 2; station++) {
+            doors(station);
+        }
+        doorsOfWaitingOnes();
         CHECKS.end();
     }
 
-    private static void due(RopewayDesk desk, int cabin, int... want) {
-        for (int what = 0; what < want.length; what++) {
-            CHECKS.due("where(" + cabin + ", " + what + ")", desk.where(cabin, what), want[what]);
+    private static void wrongInputs() {
+        CHECKS.sentence("IllegalArgumentException: no such cabin.");
+        for (int what : new int[] {-1, 0, 7, 8}) {
+            REFUSALS.beyond("where(.., " + what + ")", 0, 59, (desk, cabin) -> desk.where(cabin, what));
         }
     }
 
-    private static void everyPlace() {
-        RopewayDesk desk = new RopewayDesk();
-        due(desk, 8, 0, -1, -1, -1, -1, 0, 0, 0);
-        Scenes.bringRow(desk, 7, 2);
-        due(desk, 7, 1, 0, -1, -1, -1, 0, 0, 0);
-        due(desk, 8, 1, 1, -1, -1, -1, 0, 0, 0);
-        desk.putOn(1, 8);
-        due(desk, 8, 2, 5, 1, 0, -1, 0, 0, 0);
-        Scenes.ticks(desk, 119);
-        due(desk, 8, 2, 12, 1, 14, -1, 0, 0, 0);
-        desk.tick(1);
-        due(desk, 8, 2, 12, 1, 15, 0, 0, 0, 0);
-        desk.tick(2);
-        due(desk, 8, 2, 12, 1, 17, 2, 0, 0, 0);
-        desk.gauge(1, 9000, 9000);
-        desk.tick(1);
-        due(desk, 8, 3, 0, 1, -1, -1, 0, 1, 0);
-        desk.pulse(44);
-        due(desk, 8, 3, 44, 1, -1, -1, 0, 1, 0);
-        Scenes.pulses(desk, 5656);
-        due(desk, 8, 2, 1, 0, 0, -1, 0, 1, 0);
+    private static void others() {
+        CHECKS.sentence("-1 for others.");
+        for (int what : Refusals.outside(0, 7)) {
+            for (int cabin : new int[] {0, 1, 10, 12, 40, 59}) {
+                REFUSALS.byMinusOne("where(" + cabin + ", " + what + ")", Scenes::busy, desk -> desk.where(cabin, what));
+            }
+        }
     }
 
-    private static void doors() {
+    private static void everyPlace(int cabin) {
+        CHECKS.sentence("Of a cabin: 0 where it is (0 away, 1 siding, 2 zone, 3 rope), 1 its place in the siding (0 the first one), its zone, or what it has done (away: -1)");
         RopewayDesk desk = new RopewayDesk();
-        Scenes.toRope(desk, 0, 1);
-        Scenes.pulses(desk, 5700);
-        for (int tick = 0; tick < 165; tick++) {
+        CHECKS.where("away", desk, cabin, 0, -1, -1, -1, -1, 0, 0, 0);
+        desk.bring(30);
+        desk.bring(cabin);
+        CHECKS.where("first of the siding", desk, 30, 1, 0, -1, -1, -1, 0, 0, 0);
+        CHECKS.where("second of the siding", desk, cabin, 1, 1, -1, -1, -1, 0, 0, 0);
+        desk.putOn(1, cabin);
+        CHECKS.where("put on", desk, cabin, 2, 5, 1, 0, -1, 0, 0, 0);
+        Scenes.ticks(desk, 119);
+        CHECKS.where("before its turn", desk, cabin, 2, 12, 1, 14, -1, 0, 0, 0);
+        desk.tick(1);
+        CHECKS.where("clamping for 0 ticks", desk, cabin, 2, 12, 1, 15, 0, 0, 0, 0);
+        desk.tick(2);
+        CHECKS.where("clamping for 2 ticks", desk, cabin, 2, 12, 1, 17, 2, 0, 0, 0);
+        Scenes.proveGrip(desk, 1);
+        CHECKS.where("with 0 done", desk, cabin, 3, 0, 1, -1, -1, 0, 1, 0);
+        desk.pulse(44);
+        CHECKS.where("with 44 done", desk, cabin, 3, 44, 1, -1, -1, 0, 1, 0);
+        Scenes.pulses(desk, 5655);
+        CHECKS.where("with 5,699 done", desk, cabin, 3, 5699, 1, -1, -1, 0, 1, 0);
+        desk.pulse(1);
+        CHECKS.where("just come", desk, cabin, 2, 1, 0, 0, -1, 0, 1, 0);
+    }
+
+    private static void leastAndGreatestPlace() {
+        CHECKS.sentence("1 its place in the siding (0 the first one), its zone, or what it has done (away: -1)");
+        RopewayDesk full = Scenes.fullSiding();
+        CHECKS.where("first of twenty", full, 0, 1, 0, -1);
+        CHECKS.where("last of twenty", full, 19, 1, 19, -1);
+        CHECKS.where("away beside twenty", full, 20, 0, -1, -1);
+        RopewayDesk held = Scenes.heldUp(1, 1, 2);
+        CHECKS.where("with 5,700 done", held, 2, 3, 5700, 1, -1, -1, 0, 1, 0);
+    }
+
+    private static void doors(int station) {
+        CHECKS.sentence("5 whether its doors are open (1, 0): in zone 5 with an AGE of 5 or more, in 6 and 7, in 8 with less than 10");
+        RopewayDesk desk = Scenes.inZone1(station, 1);
+        for (int tick = 0; tick < 180; tick++) {
             int zone = 1 + tick / 15;
             int age = tick % 15;
             boolean open = zone == 5 && age >= 5 || zone == 6 || zone == 7 || zone == 8 && age < 10;
             CHECKS.due("where(1, 5) in zone " + zone + " with AGE " + age, desk.where(1, 5), open ? 1 : 0);
             desk.tick(1);
         }
-        CHECKS.due("where(1, 1)", desk.where(1, 1), 12);
-        CHECKS.due("where(1, 5) in zone 12", desk.where(1, 5), 0);
+        CHECKS.where("clamping", desk, 1, 2, 12, station, 15, 0, 0);
     }
 
-    private static void tripsAndFaults() {
-        RopewayDesk desk = new RopewayDesk();
-        Scenes.toClamping(desk, 0, 1);
-        desk.gauge(0, 4000, 9000);
-        desk.tick(1);
-        due(desk, 1, 1, 0, -1, -1, -1, 0, 0, 1);
-        desk.release(0);
-        Scenes.toRope(desk, 0, 1);
-        due(desk, 1, 3, 0, 0, -1, -1, 0, 1, 1);
-        Scenes.pulses(desk, 5700);
-        Scenes.ticks(desk, 180);
-        CHECKS.due("where(1, 4)", desk.where(1, 4), 0);
-        desk.gauge(1, 5000, 5000);
-        desk.tick(1);
-        due(desk, 1, 3, 0, 1, -1, -1, 0, 2, 1);
-        Scenes.pulses(desk, 5700);
-        Scenes.ticks(desk, 180 + 40);
-        due(desk, 1, 1, 0, -1, -1, -1, 0, 2, 3);
-    }
-
-    private static void othersAndWrongInputs() {
-        RopewayDesk desk = new RopewayDesk();
-        Scenes.toZone5(desk, 0, 1);
-        for (int what : new int[] {-1, 8, Integer.MIN_VALUE, Integer.MAX_VALUE}) {
-            CHECKS.due("where(1, " + what + ")", desk.where(1, what), -1);
+    private static void doorsOfWaitingOnes() {
+        CHECKS.sentence("5 whether its doors are open (1, 0): in zone 5 with an AGE of 5 or more, in 6 and 7, in 8 with less than 10");
+        RopewayDesk desk = Scenes.jam();
+        desk.tick(100);
+        for (int zone = 5; zone <= 12; zone++) {
+            CHECKS.due("where(.., 1)", desk.where(12 - zone, 1), zone);
+            CHECKS.due("where(.., 5) in zone " + zone + " after long", desk.where(12 - zone, 5), zone <= 7 ? 1 : 0);
         }
-        for (int cabin : new int[] {-1, 60, Integer.MIN_VALUE, Integer.MAX_VALUE}) {
-            CHECKS.refused("where(" + cabin + ", 0)", () -> desk.where(cabin, 0));
-            CHECKS.refused("where(" + cabin + ", 8)", () -> desk.where(cabin, 8));
+        for (int zone = 1; zone <= 4; zone++) {
+            CHECKS.due("where(.., 1)", desk.where(24 - zone, 1), zone);
+            CHECKS.due("where(.., 5) in zone " + zone + " after long", desk.where(24 - zone, 5), 0);
         }
+        CHECKS.due("where(24, 5) with 5,700 done", desk.where(24, 5), 0);
     }
 }

@@ -7,12 +7,14 @@ public final class PulseTest {
         wrongInputs();
         emptyRopeMoves();
         for (int station = 0; station < 2; station++) {
-            cabinsDoOneMore(station);
-            cabinComesToZone1(station);
-            zone1IsTaken(station, 1, 2);
-            zone1IsTaken(station, 59, 0);
-            zone1IsTaken(station, 0, 59);
-            ropeStandsThisTimeAndAllOthers(station);
+            for (int cabin : new int[] {0, 9, 59}) {
+                cabinsDoOneMore(station, cabin);
+                cabinComesToZone1(station, cabin);
+            }
+            for (int[] pair : new int[][] {{1, 2}, {59, 0}, {0, 59}}) {
+                zone1IsTaken(station, pair[0], pair[1]);
+                ropeStandsThisTimeAndAllOthers(station, pair[0], pair[1]);
+            }
             bumpComesWithAMoveOnly(station);
             firstOfAllTheyLetGo(station);
         }
@@ -25,7 +27,17 @@ public final class PulseTest {
     private static void wrongInputs() {
         CHECKS.sentence("IllegalArgumentException: n is not 0 .. 600.");
         REFUSALS.beyond("pulse", 0, 600, RopewayDesk::pulse);
-        REFUSALS.byException("pulse of 601 while held up", () -> Scenes.heldUp(0, 1, 2), desk -> desk.pulse(601));
+        for (int n : Refusals.outside(0, 600)) {
+            REFUSALS.byException("pulse of " + n + " while held up", () -> Scenes.heldUp(0, 1, 2), desk -> desk.pulse(n));
+            REFUSALS.byException("pulse of " + n + " before it lets go", PulseTest::mayLetGo, desk -> desk.pulse(n));
+        }
+    }
+
+    /** Cabin 2 has done 5,700, and zone 1 ahead is empty again. */
+    private static RopewayDesk mayLetGo() {
+        RopewayDesk desk = Scenes.heldUp(0, 1, 2);
+        desk.tick(15);
+        return desk;
     }
 
     private static void emptyRopeMoves() {
@@ -37,36 +49,36 @@ public final class PulseTest {
         CHECKS.due("state(9)", desk.state(9), 601);
     }
 
-    private static void cabinsDoOneMore(int station) {
+    private static void cabinsDoOneMore(int station, int cabin) {
         CHECKS.sentence("otherwise all cabins on the rope have done one more");
-        RopewayDesk desk = Scenes.onRope(station, 9, 0);
+        RopewayDesk desk = Scenes.onRope(station, cabin, 0);
         CHECKS.due("pulse(0)", desk.pulse(0), 0);
-        CHECKS.where("with 0 done", desk, 9, 3, 0, station);
+        CHECKS.where("with 0 done", desk, cabin, 3, 0, station);
         CHECKS.due("pulse(1)", desk.pulse(1), 1);
-        CHECKS.where("with 1 done", desk, 9, 3, 1, station);
+        CHECKS.where("with 1 done", desk, cabin, 3, 1, station);
         Scenes.toRope(desk, 1 - station, 8);
         Scenes.toZone5(desk, station, 7);
         desk.bring(6);
         CHECKS.due("pulse(600)", desk.pulse(600), 600);
-        CHECKS.where("of the first", desk, 9, 3, 601, station);
+        CHECKS.where("of the first", desk, cabin, 3, 601, station);
         CHECKS.where("of the other side", desk, 8, 3, 600, 1 - station);
         CHECKS.where("in a zone", desk, 7, 2, 5, station, 0);
         CHECKS.where("in the siding", desk, 6, 1, 0, -1);
     }
 
-    private static void cabinComesToZone1(int station) {
+    private static void cabinComesToZone1(int station, int cabin) {
         CHECKS.sentence("a cabin comes to zone 1 of the station that it did not leave, AGE 0, if that is empty.");
-        RopewayDesk desk = Scenes.onRope(station, 9, 5699);
-        CHECKS.where("with 5,699 done", desk, 9, 3, 5699, station, -1);
+        RopewayDesk desk = Scenes.onRope(station, cabin, 5699);
+        CHECKS.where("with 5,699 done", desk, cabin, 3, 5699, station, -1);
         CHECKS.due("pulse(1) to 5,700", desk.pulse(1), 1);
-        CHECKS.where("with 5,700 done", desk, 9, 2, 1, 1 - station, 0, -1, 0, 1, 0);
+        CHECKS.where("with 5,700 done", desk, cabin, 2, 1, 1 - station, 0, -1, 0, 1, 0);
         CHECKS.due("pulse(600) when it has let go", desk.pulse(600), 600);
-        CHECKS.where("after more pulses", desk, 9, 2, 1, 1 - station, 0);
+        CHECKS.where("after more pulses", desk, cabin, 2, 1, 1 - station, 0);
         CHECKS.due("locks()", desk.locks(), 0);
 
-        RopewayDesk past = Scenes.onRope(station, 9, 5699);
+        RopewayDesk past = Scenes.onRope(station, cabin, 5699);
         CHECKS.due("pulse(600) past the end", past.pulse(600), 600);
-        CHECKS.where("when the rope moved past the end", past, 9, 2, 1, 1 - station, 0);
+        CHECKS.where("when the rope moved past the end", past, cabin, 2, 1, 1 - station, 0);
         CHECKS.due("state(9)", past.state(9), 6299);
     }
 
@@ -85,15 +97,15 @@ public final class PulseTest {
         CHECKS.where("of the one ahead", desk, ahead, 2, 2, 1 - station, 0);
     }
 
-    private static void ropeStandsThisTimeAndAllOthers(int station) {
+    private static void ropeStandsThisTimeAndAllOthers(int station, int ahead, int behind) {
         CHECKS.sentence("when a cabin on the rope has done 5,700, the rope does not move (this time and all others), and BUMP stands");
-        RopewayDesk desk = Scenes.onRope(station, 1, 200);
-        Scenes.toRope(desk, station, 2);
+        RopewayDesk desk = Scenes.onRope(station, ahead, 200);
+        Scenes.toRope(desk, station, behind);
         Scenes.pulses(desk, 5699);
         CHECKS.due("pulse(600) with 5,699 done", desk.pulse(600), 1);
         CHECKS.due("locks()", desk.locks(), 8);
-        CHECKS.where("of the one ahead", desk, 1, 2, 1);
-        CHECKS.where("of the one behind", desk, 2, 3, 5700);
+        CHECKS.where("of the one ahead", desk, ahead, 2, 1);
+        CHECKS.where("of the one behind", desk, behind, 3, 5700);
         CHECKS.due("pulse(600) with 5,700 done", desk.pulse(600), 0);
         CHECKS.due("state(9)", desk.state(9), 5900);
     }

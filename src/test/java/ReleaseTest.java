@@ -11,7 +11,10 @@ public final class ReleaseTest {
         full();
         wind();
         for (int station = 0; station < 2; station++) {
-            bump(station);
+            for (int[] pair : new int[][] {{1, 2}, {59, 0}, {0, 59}}) {
+                bump(station, pair[0], pair[1]);
+            }
+            noneIsAtTheEnd(station);
         }
         othersStandOn();
         CHECKS.end();
@@ -39,13 +42,7 @@ public final class ReleaseTest {
         }
         REFUSALS.byFalse("release(1) with its cause alone", Scenes::fullSiding, desk -> desk.release(1));
         REFUSALS.byFalse("release(3) with its cause alone", () -> Scenes.heldUp(0, 1, 2), desk -> desk.release(3));
-        REFUSALS.byFalse("release(2) with its cause alone", ReleaseTest::windBeforeATick, desk -> desk.release(2));
-    }
-
-    private static RopewayDesk windBeforeATick() {
-        RopewayDesk desk = new RopewayDesk();
-        desk.wind(251);
-        return desk;
+        REFUSALS.byFalse("release(2) with its cause alone", Scenes::windBeforeATick, desk -> desk.release(2));
     }
 
     private static void causeIsStillThere() {
@@ -98,9 +95,9 @@ public final class ReleaseTest {
         CHECKS.due("locks()", desk.locks(), 0);
     }
 
-    private static void bump(int station) {
+    private static void bump(int station, int ahead, int behind) {
         CHECKS.sentence("BUMP: a cabin on the rope has done 5,700.");
-        RopewayDesk desk = Scenes.heldUp(station, 1, 2);
+        RopewayDesk desk = Scenes.heldUp(station, ahead, behind);
         desk.pulse(1);
         CHECKS.no("release(3) with a cabin at 5,700", desk.release(3));
         desk.tick(15);
@@ -109,7 +106,10 @@ public final class ReleaseTest {
         CHECKS.due("locks() before the release", desk.locks(), 8);
         CHECKS.yes("release(3) after it let go", desk.release(3));
         CHECKS.due("locks()", desk.locks(), 0);
+    }
 
+    private static void noneIsAtTheEnd(int station) {
+        CHECKS.sentence("BUMP: a cabin on the rope has done 5,700.");
         RopewayDesk near = Scenes.onRope(station, 1, 200);
         Scenes.toRope(near, station, 2);
         near.pulse(200);

@@ -127,6 +127,13 @@ final class Scenes {
         return desk;
     }
 
+    /** The WIND is above 250, but no tick has locked. */
+    static RopewayDesk windBeforeATick() {
+        RopewayDesk desk = new RopewayDesk();
+        desk.wind(251);
+        return desk;
+    }
+
     /** Some cabins everywhere: 10 is clamping with a report in station 0, 11 without one in 1. */
     static RopewayDesk busy() {
         RopewayDesk desk = new RopewayDesk();

@@ -8,6 +8,7 @@ public final class StateTest {
         everyNumber();
         nothingAndEverything();
         movedEver();
+        lastCallsOfAnObject();
         CHECKS.end();
     }
 
@@ -67,12 +68,16 @@ public final class StateTest {
         CHECKS.due("state(8) under a lock", desk.state(8), ticks + 15);
         desk.pulse(600);
         CHECKS.due("state(9) when it moves again", desk.state(9), 6500);
-        RopewayDesk long1 = new RopewayDesk();
-        for (int i = 1; i <= 250; i++) {
-            long1.pulse(600);
-            long1.tick(100);
+    }
+
+    private static void lastCallsOfAnObject() {
+        CHECKS.sentence("An object is used for at most 512 calls after it has been made");
+        RopewayDesk desk = new RopewayDesk();
+        for (int i = 0; i < 255; i++) {
+            desk.pulse(600);
+            desk.tick(100);
         }
-        CHECKS.due("state(8) after 250 calls", long1.state(8), 25000);
-        CHECKS.due("state(9) after 250 calls", long1.state(9), 150000);
+        CHECKS.due("state(8) as the 511th call", desk.state(8), 25500);
+        CHECKS.due("state(9) as the 512th call", desk.state(9), 153000);
     }
 }

@@ -27,6 +27,8 @@ public final class TickTest {
         CHECKS.sentence("IllegalArgumentException: n is not 1 .. 100.");
         REFUSALS.beyond("tick", 1, 100, RopewayDesk::tick);
         REFUSALS.byException("tick of -1", Scenes::busy, desk -> desk.tick(-1));
+        REFUSALS.byException("tick of 0 in a storm", Scenes::windBeforeATick, desk -> desk.tick(0));
+        REFUSALS.byException("tick of 101 in a storm", Scenes::windBeforeATick, desk -> desk.tick(101));
     }
 
     private static void ticksAreCounted() {

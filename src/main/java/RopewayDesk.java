@@ -218,10 +218,8 @@ public final class RopewayDesk {
     }
 
     public int sided(int place) {
-        if (place < 0 || place >= siding.size) {
-            return -1;
-        }
-        return siding.row[place].number;
+        Cabin cabin = siding.cabinAt(place);
+        return cabin == null ? -1 : cabin.number;
     }
 
     public int state(int what) {
@@ -362,7 +360,8 @@ public final class RopewayDesk {
         if (station.count() >= CROWD) {
             return LEAST_SPACING;
         }
-        return Math.max(LOOP / planned, LEAST_SPACING);
+        // PLANNED is never under 1, yet rule 7 of LANGUAGE.md asks to look at a divisor before it divides.
+        return Math.max(LOOP / Math.max(planned, 1), LEAST_SPACING);
     }
 
     private void goOnClamping(Station station, Cabin cabin) {
@@ -530,6 +529,10 @@ public final class RopewayDesk {
 
         boolean hasRoom() {
             return size < SIDING_ROOM;
+        }
+
+        Cabin cabinAt(int place) {
+            return place < 0 || place >= size ? null : row[place];
         }
 
         void append(Cabin cabin) {

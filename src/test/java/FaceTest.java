@@ -6,7 +6,9 @@ import java.lang.reflect.Modifier;
 import java.util.ArrayList;
 import java.util.Arrays;
 import java.util.Collections;
+import java.util.HashSet;
 import java.util.List;
+import java.util.Set;
 
 /** The public face, and rule 1 of LANGUAGE.md. */
 public final class FaceTest {
@@ -27,9 +29,11 @@ public final class FaceTest {
         CHECKS.due("the constructor's parameters", constructors[0].getParameterCount(), 0);
 
         List<String> face = new ArrayList<>();
+        Set<String> names = new HashSet<>();
         for (Method method : RopewayDesk.class.getDeclaredMethods()) {
             if (isSeen(method)) {
                 face.add(written(method));
+                names.add(method.getName());
                 int exceptions = WITHOUT_EXCEPTION.contains(method.getName()) ? 0 : 1;
                 CHECKS.due("exceptions of " + method.getName(), method.getExceptionTypes().length, exceptions);
             }
@@ -40,10 +44,21 @@ public final class FaceTest {
         for (Field field : RopewayDesk.class.getDeclaredFields()) {
             CHECKS.no("seen field " + field.getName(), isSeen(field));
         }
+        noneHiddenBears(names, RopewayDesk.class);
         for (Class<?> inside : RopewayDesk.class.getDeclaredClasses()) {
             CHECKS.no("public class " + inside.getName(), Modifier.isPublic(inside.getModifiers()));
+            CHECKS.yes("static class " + inside.getName(), Modifier.isStatic(inside.getModifiers()));
+            noneHiddenBears(names, inside);
         }
         CHECKS.end();
+    }
+
+    private static void noneHiddenBears(Set<String> names, Class<?> type) {
+        for (Method method : type.getDeclaredMethods()) {
+            if (type != RopewayDesk.class || !isSeen(method)) {
+                CHECKS.no("the name of a public one for " + method, names.contains(method.getName()));
+            }
+        }
     }
 
     private static boolean isSeen(Member member) {

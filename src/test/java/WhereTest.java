@@ -11,6 +11,8 @@ public final class WhereTest {
         }
         leastAndGreatestPlace();
         for (int station = 0; station < 2; station++) {
+            stationAgeAndClamping(station);
+            tripsAndFaultStay(station);
             doors(station);
         }
         doorsOfWaitingOnes();
@@ -67,6 +69,44 @@ public final class WhereTest {
         CHECKS.where("away beside twenty", full, 20, 0, -1, -1);
         RopewayDesk held = Scenes.heldUp(1, 1, 2);
         CHECKS.where("with 5,700 done", held, 2, 3, 5700, 1, -1, -1, 0, 1, 0);
+    }
+
+    private static void stationAgeAndClamping(int station) {
+        CHECKS.sentence("2 the station (on the rope: that it left; else -1), 3 its AGE (-1: in no zone), 4 for how many ticks it is clamping (-1: it is not)");
+        RopewayDesk desk = new RopewayDesk();
+        CHECKS.where("away", desk, 9, 0, -1, -1, -1, -1);
+        desk.bring(9);
+        CHECKS.where("in the siding", desk, 9, 1, 0, -1, -1, -1);
+        Scenes.toClamping(desk, station, 9);
+        desk.tick(1);
+        CHECKS.where("clamping", desk, 9, 2, 12, station, 16, 1);
+        Scenes.failGrip(desk, station);
+        CHECKS.where("failed", desk, 9, 1, 0, -1, -1, -1);
+        desk.release(Scenes.GRIP);
+        Scenes.toRope(desk, station, 9);
+        CHECKS.where("on the rope", desk, 9, 3, 0, station, -1, -1);
+        Scenes.pulses(desk, 5700);
+        CHECKS.where("come to the other station", desk, 9, 2, 1, 1 - station, 0, -1);
+        Scenes.ticks(desk, 179);
+        CHECKS.where("waiting for its turn there", desk, 9, 2, 12, 1 - station, 14, -1);
+    }
+
+    private static void tripsAndFaultStay(int station) {
+        CHECKS.sentence("6 its TRIPS, 7 its latest FAULT (0: none).");
+        RopewayDesk desk = Scenes.clamping(station, 9);
+        desk.tick(40);
+        CHECKS.where("in the siding", desk, 9, 1, 0, -1, -1, -1, 0, 0, 3);
+        desk.release(Scenes.GRIP);
+        Scenes.toRope(desk, station, 9);
+        CHECKS.where("on the rope", desk, 9, 3, 0, station, -1, -1, 0, 1, 3);
+        Scenes.pulses(desk, 5700);
+        CHECKS.where("in zone 1", desk, 9, 2, 1, 1 - station, 0, -1, 0, 1, 3);
+        desk.tick(60);
+        CHECKS.yes("takeOff", desk.takeOff(1 - station, 9));
+        CHECKS.where("taken off", desk, 9, 1, 0, -1, -1, -1, 0, 1, 3);
+        CHECKS.yes("putOn", desk.putOn(station, 9));
+        CHECKS.where("put on again", desk, 9, 2, 5, station, 0, -1, 0, 1, 3);
+        CHECKS.where("never moved", desk, 10, 0, -1, -1, -1, -1, 0, 0, 0);
     }
 
     private static void doors(int station) {
